@@ -802,7 +802,7 @@ public final class SheepAndStones {
                 return NONE;
             }
             int higher = pivot + 1;
-            for (int k = pivot + 1; k < stones; k++) {
+            for (int k = pivot + 2; k < stones; k++) {
                 if (tried[k] > tried[pivot]) {
                     higher = k;
                 }

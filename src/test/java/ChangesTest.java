@@ -10,6 +10,7 @@ public final class ChangesTest {
         give();
         undo();
         undoLast();
+        undoMixed();
         keep();
         back();
         count();
@@ -78,6 +79,30 @@ public final class ChangesTest {
         }
         check.due("undo: the last eight alone", x.undo(), NO);
         check.due("undo: the fifth last stays", x.stone(0, 2), 4);
+    }
+
+    private static void undoMixed() {
+        SheepAndStones x = Check.laid("e1,1,0;e2,2,0;s0,1,1;s1,2,2;s1,3,3;");
+        x.weigh(2, 9);
+        x.give(1, 10);
+        for (int k = 0; k < 3; k++) {
+            x.weigh(k, 11 + k);
+            x.give(k % 2, 21 + k);
+        }
+        check.due("undo: eight", x.count(4), 8);
+        x.give(1, 31);
+        x.weigh(0, 17);
+        int[][] behind = {{11, 12, 13, 23, 31}, {11, 12, 13, 23, 22}, {11, 12, 13, 21, 22}, {11, 12, 9, 21, 22},
+            {11, 12, 9, 21, 10}, {11, 2, 9, 21, 10}, {11, 2, 9, 1, 10}, {1, 2, 9, 1, 10}};
+        for (int k = 0; k < 8; k++) {
+            check.due("undo: the latest", x.undo(), 7 - k);
+            for (int i = 0; i < 3; i++) {
+                check.due("undo " + k + ": stone " + i, x.stone(i, 2), behind[k][i]);
+            }
+            check.due("undo " + k + ": sheep", x.engine(0, 1), behind[k][3]);
+            check.due("undo " + k + ": sheep", x.engine(1, 1), behind[k][4]);
+        }
+        check.due("undo: no ninth", x.undo(), NO);
     }
 
     private static void keep() {

@@ -62,6 +62,8 @@ public final class CratersTest {
         odds(40, 20, 10, 2, 1, 1);
         odds(3, 2, 4, 2, 4, 25);
         odds(3, 2, 4, 3, 44, 125);
+        // misses at full strength and misses up to it meet: 2, 1, 2 and 2, 2, 2
+        odds(2, 1, 5, 4, 1, 2);
         // strength grows no further than at first
         odds(1, 1, 1, 2, 19, 100);
         // 1 less 0.9 to the ninth

@@ -41,6 +41,14 @@ public final class ShouldBeTest {
         ordered("e1,20,0;f0,0;m0;s0,1,2;s0,2,4;s0,5,4;w2,8;", 2, 4, 4, 2);
         // menders mend what came too early
         ordered("e1,20,0;f0,0;m4;s0,1,4;s0,2,2;s0,3,4;w2,8;", NONE, NONE, NONE, NONE);
+        // the last day counts
+        ordered("e1,20,0;f0,0;s0,30,4;w2,4;", 30, 4);
+        // three of weight 4, told among others, break 12 together if nobody mends
+        ordered("e1,20,0;f0,0;m0;s0,6,4;s0,5,1;s0,4,2;s0,3,4;s0,2,3;s0,1,4;w2,12;", 3, 4, 4, 4, 1, 2, 3);
+        // each stone leaves less weight than it breaks: what lies there ends ahead of the mending
+        ordered("e1,12,0;f0,0;m9;s0,1,1;s0,2,1;s0,5,2;s0,6,2;w9,60;w3,6;", 2, 2, 2, 1, 1);
+        // the strongest blow ahead, then the first order behind it
+        ordered("e1,20,0;f0,0;m2;s0,1,1;s0,2,1;s0,3,3;s0,4,3;s0,5,4;s0,6,2;w7,6;w2,60;w3,60;", 1, 2, 1, 1, 3, 3, 4);
         // of one day the order is as told
         ordered("e1,20,0;e1,8,0;f0,0;f1,0;s1,4,4;s0,4,2;w2,4;m0;", 4, 2, 4);
     }
@@ -89,6 +97,12 @@ public final class ShouldBeTest {
         check.due("hold: from the lowest on", x.hold(30), 1);
         x = Check.laid("e1,20,0;w0,0;");
         check.due("hold: none", x.hold(1), NONE);
+        x = Check.laid("e1,60,0;f0,0;s0,1,4;s0,2,4;w2,6;m5;");
+        check.due("hold: too far", x.hold(2), 0);
+        x.give(0, 20);
+        check.due("hold: other sheep", x.hold(2), 3);
+        x.weigh(1, 2);
+        check.due("hold: another weight", x.hold(2), 0);
         x = Check.laid("e1,60,0;f0,0;s0,1,20;s0,2,20;w0,14;");
         check.due("hold: 9", x.hold(30), 9);
         x = Check.laid("e1,60,0;f0,0;s0,1,20;s0,2,20;w0,13;");
@@ -121,7 +135,14 @@ public final class ShouldBeTest {
             check.due("aim(0, " + c + ")", x.aim(0, c), due[c]);
         }
         check.due("aim: a sheep less", x.aim(1, 6), 10);
+        x.give(0, 1);
+        check.due("aim: the lowest weight", x.aim(0, 2), 1);
+        x.give(0, 16);
+        check.due("aim: 80 by 20 is still 4", x.aim(0, 0), NONE);
+        check.due("aim: 80 by 20 is still 4", x.aim(0, 1), 17);
         check.due("aim: nothing changes", x.stone(0, 2), 10);
+        x = Check.laid("e2,38,0;s0,1,1;");
+        check.due("aim: the highest weight", x.aim(0, 0), 20);
         x = Check.laid("e3,21,1;s0,2,4;s0,3,4;r2;f0,0;");
         check.due("aim in rain", x.aim(0, 4), 4);
         check.due("aim in rain", x.aim(0, 0), 8);
