@@ -17,12 +17,10 @@ public final class SheepAndStones {
     private static final int YEARS = 10000, DRAW_MODULUS = 65521;
     private static final int ORDERS_BOUND = 1000, DIVISIONS_BOUND = 100;
 
-    private final int[] text = new int[TEXT_MOST];
-    private int textLength;
+    private final Text text = new Text();
     private final Plan plan = new Plan();
-    /** Takes what is only read or tried, so that the siege itself stays as it is. */
+    /** Takes what is only tried, so that the siege itself stays as it is. */
     private final Plan scratch = new Plan();
-    private final Reader reader = new Reader();
     private final Siege siege = new Siege();
     private final BestOrder bestOrder = new BestOrder();
     private final Changes changes = new Changes();
@@ -41,31 +39,30 @@ public final class SheepAndStones {
         if (!within(n, 1, BYTES_MOST)) {
             return BAD;
         }
-        if (textLength + n > TEXT_MOST) {
+        if (text.length + n > TEXT_MOST) {
             return FULL;
         }
         for (int left = n - 1; left >= 0; left--) {
-            text[textLength] = (int) ((v >>> (8 * left)) & 255L);
-            textLength++;
+            text.append((int) ((v >>> (8 * left)) & 255L));
         }
-        return textLength;
+        return text.length;
     }
 
     public int wipe() {
-        int was = textLength;
-        textLength = 0;
+        int was = text.length;
+        text.length = 0;
         return was;
     }
 
     public int fault() {
-        return reader.firstFault(text, textLength, scratch);
+        return text.firstFault();
     }
 
     public int lay() {
-        if (reader.firstFault(text, textLength, scratch) != NONE || scratch.engines == 0) {
+        if (text.firstFault() != NONE || text.plan.engines == 0) {
             return NO;
         }
-        plan.copyFrom(scratch);
+        plan.copyFrom(text.plan);
         changes.clear();
         bestOrder.forget();
         return plan.engines;
@@ -320,7 +317,7 @@ public final class SheepAndStones {
             case 5:
                 return changes.kept;
             case 6:
-                return textLength;
+                return text.length;
             default:
                 return BAD;
         }
@@ -519,19 +516,23 @@ public final class SheepAndStones {
         }
     }
 
-    /** Reads a text into a plan, item by item. */
-    private static final class Reader {
-        private int[] bytes;
+    /** The text as it is written, and the plan that its items tell. */
+    private static final class Text {
+        private final int[] bytes = new int[TEXT_MOST];
         private int length;
-        private Plan into;
+        private final Plan plan = new Plan();
         private final int[] numbers = new int[NUMBERS_MOST];
         private int told;
 
+        private void append(int newByte) {
+            if (length < TEXT_MOST) {
+                bytes[length] = newByte;
+                length++;
+            }
+        }
+
         /** Where the first item begins that is not so, or NONE; the plan has all items ahead of it. */
-        private int firstFault(int[] text, int textLength, Plan plan) {
-            bytes = text;
-            length = textLength;
-            into = plan;
+        private int firstFault() {
             plan.clear();
             int at = 0;
             for (int items = 0; items < TEXT_MOST && at < length; items++) {
@@ -545,7 +546,7 @@ public final class SheepAndStones {
         }
 
         private int byteAt(int place) {
-            return bytes != null && place >= 0 && place < length && place < bytes.length ? bytes[place] : NONE;
+            return within(place, 0, length - 1) && place < TEXT_MOST ? bytes[place] : NONE;
         }
 
         private boolean isFigure(int place) {
@@ -578,17 +579,17 @@ public final class SheepAndStones {
         private boolean tell(int letter) {
             switch (letter) {
                 case 'e':
-                    return told == 3 && into.addEngine(numbers[0], numbers[1], numbers[2]);
+                    return told == 3 && plan.addEngine(numbers[0], numbers[1], numbers[2]);
                 case 's':
-                    return told == 3 && into.addStone(numbers[0], numbers[1], numbers[2]);
+                    return told == 3 && plan.addStone(numbers[0], numbers[1], numbers[2]);
                 case 'w':
-                    return told == 2 && into.setStrength(numbers[0], numbers[1]);
+                    return told == 2 && plan.setStrength(numbers[0], numbers[1]);
                 case 'm':
-                    return told == 1 && into.setMenders(numbers[0]);
+                    return told == 1 && plan.setMenders(numbers[0]);
                 case 'r':
-                    return told == 1 && into.addRain(numbers[0]);
+                    return told == 1 && plan.addRain(numbers[0]);
                 case 'f':
-                    return told == 2 && into.setEaten(numbers[0], numbers[1]);
+                    return told == 2 && plan.setEaten(numbers[0], numbers[1]);
                 default:
                     return false;
             }
