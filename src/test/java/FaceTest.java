@@ -77,7 +77,15 @@ public final class FaceTest {
         for (Class<?> inner : type.getDeclaredClasses()) {
             check.holds(inner + " is not static", Modifier.isStatic(inner.getModifiers()));
             check.holds(inner + " is public", !Modifier.isPublic(inner.getModifiers()));
+            ownNames(inner);
             members(inner);
+        }
+    }
+
+    private static void ownNames(Class<?> inner) {
+        for (Method m : inner.getDeclaredMethods()) {
+            boolean taken = FACE.stream().anyMatch(face -> face.contains(" " + m.getName() + "("));
+            check.holds(m + " bears a public name", !taken);
         }
     }
 

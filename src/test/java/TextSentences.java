@@ -287,6 +287,17 @@ final class TextSentences {
         s.due("fault(): nothing of the old text stands behind it", x.fault(), 0);
         Check.tell(x, "1;");
         s.due("fault(): nothing of the old text stands behind it", x.fault(), NONE);
+        // what is not ended is not ended by bytes that stood there
+        for (String old : new String[] {"m1;", "w1,1;", ENGINE, "r30;r1;"}) {
+            for (int left = 1; left < old.length(); left++) {
+                x.wipe();
+                Check.tell(x, old);
+                x.wipe();
+                Check.tell(x, old.substring(0, left));
+                int due = left == 4 && old.startsWith("r30;") ? NONE : left > 4 && old.startsWith("r30;") ? 4 : 0;
+                s.due("fault() of the first " + left + " of " + old, x.fault(), due);
+            }
+        }
     }
 
     private void layed() {
