@@ -522,7 +522,6 @@ public final class SheepAndStones {
         private int length;
         private final Plan plan = new Plan();
         private final int[] numbers = new int[NUMBERS_MOST];
-        private int told;
 
         private void append(int newByte) {
             if (length < TEXT_MOST) {
@@ -556,7 +555,7 @@ public final class SheepAndStones {
         /** Where the item behind this one begins, or NONE if this one is not so. */
         private int readItem(int start) {
             int place = start + 1;
-            for (told = 1; told <= NUMBERS_MOST && isFigure(place); told++) {
+            for (int told = 1; told <= NUMBERS_MOST && isFigure(place); told++) {
                 int number = byteAt(place) - '0';
                 place++;
                 if (isFigure(place)) {
@@ -567,7 +566,7 @@ public final class SheepAndStones {
                 int mark = byteAt(place);
                 place++;
                 if (mark == ';') {
-                    return tell(byteAt(start)) ? place : NONE;
+                    return tell(byteAt(start), told) ? place : NONE;
                 }
                 if (mark != ',') {
                     return NONE;
@@ -576,7 +575,7 @@ public final class SheepAndStones {
             return NONE;
         }
 
-        private boolean tell(int letter) {
+        private boolean tell(int letter, int told) {
             switch (letter) {
                 case 'e':
                     return told == 3 && plan.addEngine(numbers[0], numbers[1], numbers[2]);

@@ -23,6 +23,8 @@ public final class FaceTest {
         + "|native|transient|double|float|Object|Exception|Thread|Random|protected|import static|package)\\b"
         + "|->|::|\\.(equals|hashCode|toString)\\(|\\w+Exact\\(|\"";
 
+    private static final int LINES_MOST = 60;
+
     public static void main(String[] args) throws IOException {
         check.due("BAD", SheepAndStones.BAD, -1);
         check.due("NO", SheepAndStones.NO, -2);
@@ -30,7 +32,10 @@ public final class FaceTest {
         check.due("NONE", SheepAndStones.NONE, -4);
         face();
         members(SheepAndStones.class);
-        words(Files.readString(Path.of("src/main/java/SheepAndStones.java")));
+        String source = Files.readString(Path.of("src/main/java/SheepAndStones.java"));
+        words(source);
+        lengths(source);
+        parts(source, Files.readString(Path.of("../shared/DOC.md")));
         check.end();
     }
 
@@ -97,5 +102,36 @@ public final class FaceTest {
         }
         check.holds("only Arrays is imported", code.replace("import java.util.Arrays;", "").indexOf("import") < 0);
         check.holds("7-bit signs alone", source.chars().allMatch(c -> c < 128));
+    }
+
+    private static void lengths(String source) {
+        int begun = 0;
+        int methods = 0;
+        String[] lines = source.split("\n");
+        for (int k = 0; k < lines.length; k++) {
+            if (lines[k].matches("\\s+(private|public) [^=;]*\\) \\{") || lines[k].matches("\\s+(private|public) .*\\($")) {
+                begun = k;
+                methods++;
+            } else if (lines[k].matches("    (    )?\\}")) {
+                check.holds("the method in line " + (begun + 1) + " is too long", k - begun < LINES_MOST);
+            }
+        }
+        check.holds(methods + " methods were found", methods > FACE.size());
+    }
+
+    /** The interface's parts, each ahead of its calls, the calls in the document's order. */
+    private static void parts(String source, String document) {
+        StringBuilder due = new StringBuilder();
+        Matcher part = Pattern.compile("Ahead of the calls (.*?) the interface says: ---- (.*)\\.").matcher(document);
+        while (part.find()) {
+            due.append("// ---- ").append(part.group(2)).append(' ');
+            due.append(part.group(1).replaceAll("[`,]", "")).append(' ');
+        }
+        StringBuilder found = new StringBuilder();
+        Matcher line = Pattern.compile("(?m)^    (// ---- .*|public \\w+ (\\w+)\\(.*)$").matcher(source);
+        while (line.find()) {
+            found.append(line.group(2) == null ? line.group(1) : line.group(2)).append(' ');
+        }
+        check.holds("parts and calls are " + found + "and should be " + due, found.toString().equals(due.toString()));
     }
 }
